@@ -118,6 +118,7 @@ public final class PromiseTests {
         due("watched in the first hour", x.watch(0, 0, 1), 1);
         due("watched in the last hour", x.watch(0, 7, 1), 1);
         due("a word of an earlier text", tell(x, "r000;"), 1);
+        due("no word is watched by an ink's statement", with("w500;i03;").watch(0, 3, 0), 0);
         textRoom();
         textAtEighty();
     }
@@ -132,6 +133,8 @@ public final class PromiseTests {
         due("four birds", tell(x, "bs000;bt000;bc000;bo000;"), 4);
         due("no room", tell(x, "bs000;"), -2000);
         due("birds", x.count(1), 4);
+        due("five birds in one text", tell(new EatenByDusk(), "bs000;bt000;bc000;bo000;bg000;"), -2024);
+        due("eleven words in one text", tell(new EatenByDusk(), "w500;".repeat(11)), -2050);
     }
 
     private static void textAtEighty() {
@@ -397,6 +400,7 @@ public final class PromiseTests {
         due("holds(512)", x.holds(512), 0);
         due("holds(518)", x.holds(518), 0);
         due("one is not there", x.holds(3), -9);
+        due("holds(1)", x.holds(1), -9);
         due("holds(1023)", x.holds(1023), -9);
         due("none", x.holds(0), -1);
         due("1024", x.holds(1024), -1);
