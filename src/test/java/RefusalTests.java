@@ -20,18 +20,23 @@ public final class RefusalTests {
     private static int wrong = 0;
 
     /** What has been told to an object before the call in question. */
-    private enum Past { NEW, DAY, DAY_WITHOUT_LETTERS, DAY_WITHOUT_IMAGE, DUSK, ALL_FULL, LETTERS_FULL }
+    private enum Past { NEW, DAY, DAY_WITHOUT_LETTERS, DUSK, ALL_FULL, LETTERS_FULL }
 
-    private static EatenByDusk after(Past past) {
+    private static EatenByDusk after(Past past, boolean withImage) {
         switch (past) {
-            case NEW: return new EatenByDusk();
-            case DAY: return day(true, true);
-            case DAY_WITHOUT_LETTERS: return day(true, false);
-            case DAY_WITHOUT_IMAGE: return day(false, true);
-            case DUSK: return dusk();
-            case ALL_FULL: return allFull();
-            default: return lettersFull();
+            case NEW: return aNewOne(withImage);
+            case DAY: return day(withImage, true);
+            case DAY_WITHOUT_LETTERS: return day(withImage, false);
+            case DUSK: return dusk(withImage);
+            case ALL_FULL: return allFull(withImage);
+            default: return lettersFull(withImage);
         }
+    }
+
+    private static EatenByDusk aNewOne(boolean withImage) {
+        EatenByDusk x = new EatenByDusk();
+        if (withImage) x.image();
+        return x;
     }
 
     /** Five words of which 0, 3 and 4 are gone, three birds, HOUR 2, a row as the words left, two letters. */
@@ -52,8 +57,8 @@ public final class RefusalTests {
         return x;
     }
 
-    private static EatenByDusk dusk() {
-        EatenByDusk x = day(true, true);
+    private static EatenByDusk dusk(boolean withImage) {
+        EatenByDusk x = day(withImage, true);
         x.judge();
         for (int hour = 2; hour < 8; hour++) {
             x.hour();
@@ -63,20 +68,20 @@ public final class RefusalTests {
     }
 
     /** Ten words, four birds, ten in the row as the words left. */
-    private static EatenByDusk allFull() {
+    private static EatenByDusk allFull(boolean withImage) {
         EatenByDusk x = new EatenByDusk();
         String told = "w900;w811;w722;w603;w514;w425;w306;w217;w128;w009;bs107;bt236;bc345;bg445;";
         due("statements of all that is full", tell(x, told), 14);
         for (int meaning = 0; meaning < 10; meaning++) {
             x.row(meaning);
         }
-        x.image();
+        if (withImage) x.image();
         return x;
     }
 
     /** Eighty letters, which are a text of ten words, three birds and three inks. */
-    private static EatenByDusk lettersFull() {
-        EatenByDusk x = new EatenByDusk();
+    private static EatenByDusk lettersFull(boolean withImage) {
+        EatenByDusk x = aNewOne(withImage);
         letters(x, "w900;w811;w722;w603;w514;w425;w306;w217;w128;w009;bs107;bt236;bc345;i09;i18;i27;");
         return x;
     }
@@ -176,19 +181,22 @@ public final class RefusalTests {
     }
 
     private static void refused(Past past, int number, String call, int... told) {
-        String what = call + Arrays.toString(told) + " (" + past + ")";
-        EatenByDusk x = after(past);
         int answer = call.equals("winter") ? 1000000000 - number : number;
-        due(what, ask(x, call, told), answer);
-        sameBut(what, x, after(past), number);
+        changesOnly(past, false, number, answer, call, told);
+        if (!call.equals("on")) changesOnly(past, true, number, answer, call, told);
     }
 
     /** A call that only asks: nothing is counted and nothing changes. */
     private static void keeps(Past past, int answer, String call, int... told) {
-        String what = call + Arrays.toString(told) + " (" + past + ")";
-        EatenByDusk x = after(past);
+        changesOnly(past, false, 0, answer, call, told);
+        changesOnly(past, true, 0, answer, call, told);
+    }
+
+    private static void changesOnly(Past past, boolean withImage, int number, int answer, String call, int... told) {
+        String what = call + Arrays.toString(told) + " (" + past + (withImage ? " with image)" : ")");
+        EatenByDusk x = after(past, withImage);
         due(what, ask(x, call, told), answer);
-        sameBut(what, x, after(past), 0);
+        sameBut(what, x, after(past, withImage), number);
     }
 
     private static void refusedEach(Past past, int number, String call, int[] told) {
@@ -335,9 +343,9 @@ public final class RefusalTests {
     }
 
     private static void on() {
-        refused(Past.NEW, STATE, "on");
-        refused(Past.DAY_WITHOUT_IMAGE, STATE, "on");
-        refused(Past.LETTERS_FULL, STATE, "on");
+        for (Past past : Past.values()) {
+            refused(past, STATE, "on");
+        }
     }
 
     /** Of an object on which all has been refused each number is counted for itself, -5 never. */
@@ -351,13 +359,30 @@ public final class RefusalTests {
         due("neither anew() nor on() takes them back", Arrays.toString(refusals(x)), "[8, 2, 3, 4, 0, 5]");
     }
 
+    /** An object is used for 512 calls: the last of them still tells all that were refused. */
+    private static void allCallsAreRefused() {
+        String[] call = {"word", "word", "on", "left", "", "left"};
+        int[][] told = {{0, 0}, {0, 6}, {}, {-1}, {}, {9}};
+        for (int i = 0; i < call.length; i++) {
+            EatenByDusk x = new EatenByDusk();
+            int used = i == 1 ? 6 : 0;
+            if (i == 1) tell(x, "w000;");
+            for (int n = used; n < 511 && i != 4; n++) {
+                due(call[i] + ", call " + (n + 1), ask(x, call[i], told[i]), -1 - i);
+            }
+            due("the 512th call", x.count(11 + i), i == 4 ? 0 : 511 - used);
+        }
+    }
+
     private static void noFaultIsCounted() {
         String[] told = {"", "x", "w10", "w100;x", "w100;i05;i30;", "w100;r500;r600;", "r200;bs010;", "bs000;bs000;", "i19;w930;"};
         int[] due = {-1000, -1000, -1003, -1005, -2009, -2010, -2005, -2006, -2004};
         for (int i = 0; i < told.length; i++) {
-            EatenByDusk x = after(Past.DAY_WITHOUT_LETTERS);
-            due("text() of " + told[i], tell(x, told[i]), due[i]);
-            sameBut("text() of " + told[i], x, after(Past.DAY_WITHOUT_LETTERS), 0);
+            for (boolean withImage : new boolean[] {false, true}) {
+                EatenByDusk x = after(Past.DAY_WITHOUT_LETTERS, withImage);
+                due("text() of " + told[i], tell(x, told[i]), due[i]);
+                sameBut("text() of " + told[i], x, after(Past.DAY_WITHOUT_LETTERS, withImage), 0);
+            }
         }
     }
 
@@ -406,6 +431,7 @@ public final class RefusalTests {
         row();
         on();
         eachNumberIsCounted();
+        allCallsAreRefused();
         noFaultIsCounted();
         askingKeepsAll();
         System.out.println("RefusalTests: " + looked + " answers looked at, " + wrong + " not as due");
